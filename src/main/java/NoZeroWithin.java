@@ -1101,7 +1101,7 @@ public final class NoZeroWithin {
         }
     }
 
-    /** What was fed. Read from left to right; where a token can't stand, reading stops: that one's place is the fault. */
+    /** What was fed. It is read from left to right up to a token that can't stand: there is the fault. */
     static final class Tape {
         private static final int OPEN_MOST = 5, DIGITS_MOST = 4;
 

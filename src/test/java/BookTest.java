@@ -102,6 +102,11 @@ public final class BookTest {
         Due.fill(x, 0, 2, 3, 4);
         D.due("of like ones the first", x.who(0, 0), 1);
         D.due("what -1", x.who(0, -1), -7);
+        NoZeroWithin alone = new NoZeroWithin();
+        alone.clerk(2, 0);
+        Due.fill(alone, 0, 2, 0, 0);
+        D.due("one alone", alone.who(0, 0), 0);
+        D.due("one alone, how far", alone.who(0, 1), 4);
     }
 
     private static void smuggled() {
@@ -121,6 +126,10 @@ public final class BookTest {
         D.due("empty", x.smuggled(2, 1, 0), -1);
         D.due("empty, how far", x.smuggled(2, 1, 1), -1);
         D.due("empty, what", x.smuggled(2, 1, 2), -7);
+        Due.fill(x, 3, 2, 7);
+        // A 0 there makes 5.
+        D.due("one alone", x.smuggled(3, 1, 0), 0);
+        D.due("one alone, how far", x.smuggled(3, 1, 1), 2);
         D.due("what -1", x.smuggled(1, 1, -1), -7);
         D.due("the sheet is as it was", x.book(1, 1, 1), 19);
     }

@@ -57,6 +57,8 @@ public final class DebtTest {
         for (int fg : new int[] {-1, 0, 6, 11, 60, 61, 100, -12, 7, 9, Integer.MIN_VALUE, Integer.MAX_VALUE}) {
             D.due("none such " + fg, x.pay(0, fg, -1), -5);
         }
+        x.lend(5, 4, 3);
+        D.due("pay, the last two", x.pay(0, 54, 1), 2);
         D.due("much -1", x.pay(0, 1, -1), -7);
         D.due("much 10000", x.pay(0, 1, 10000), -7);
     }
@@ -107,6 +109,8 @@ public final class DebtTest {
         D.due("then none", ring.forgive(1), 0);
         D.due("asked only", ring.debt(3, 4), 1);
         D.due("rings as ever", ring.rings(), 56);
+        NoZeroWithin first = owing(0, 1, 1, 1, 0, 1);
+        D.due("the very first", first.forgive(0), 1);
         NoZeroWithin two = owing(0, 1, 1, 1, 0, 1, 2, 3, 1, 3, 4, 1, 4, 2, 1);
         D.due("the greater ring", two.forgive(0), 23);
         D.due("two are left", two.forgive(1), 2);

@@ -141,8 +141,14 @@ public final class ToldBookTest {
             x.cell(0, i, 4);
             D.due("each row is his", x.judge(0, 0), i / 2);
         }
+        D.due("none, no step", x.film(0, 0, 5, 0), 0);
         D.due("none", x.film(0, 0, 999, 9900), 0);
         D.due("empty", x.cell(0, 0, 0), -12);
+        D.due("steps of none", x.film(0, 0, 25, 3), 3);
+        for (int i = 0; i < 3; i++) {
+            x.cell(0, 2 * i + 1, 52);
+        }
+        D.due("one number thrice", x.judge(0, 0), -1);
         D.due("twenty", x.film(0, 0, 999, 9920), 20);
         D.due("forty numbers", x.cell(0, 39, 0), 1);
         D.due("not 41", x.cell(0, 40, 0), -12);

@@ -94,6 +94,10 @@ public final class TownTest {
         y.force(1);
         y.clerk(0, 0);
         D.due("fed in their order", y.asks(0, 0, 0, 0), 12);
+
+        for (int n = 1; n <= 5; n++) {
+            D.due("so many come", new NoZeroWithin().feed(n, 9, 9, 9, 9, 9), n);
+        }
     }
 
     private static void texts() {
@@ -152,6 +156,10 @@ public final class TownTest {
         says("not 3", 0, 0);
         says("not not 3", 0, 1);
         says("5 or 0", 0, 1);
+        says("1+(0 or 0)", 0, 1);
+        says("1+(0 and 3)", 0, 1);
+        says("1+(1 and 3)", 0, 2);
+        says("1+(0-1 and 3)", 0, 2);
         says("0 or 0", 0, 0);
         says("0 or 0 or 9", 0, 1);
         says("5 and 6", 0, 1);
@@ -255,6 +263,21 @@ public final class TownTest {
         fault("nought 1,2;", 8);
         fault("nought 1/2;", 8);
         fault("nought 1>2;", 8);
+        fault("nought not;slips 0;costs 0;", 10);
+        fault("nought -;slips 0;costs 0;", 8);
+        fault("nought 1 or;slips 0;costs 0;", 11);
+        fault("nought 1 and;slips 0;costs 0;", 12);
+        fault("nought 1<;slips 0;costs 0;", 9);
+        fault("nought 1=;slips 0;costs 0;", 9);
+        fault("nought 1+;slips 0;costs 0;", 9);
+        fault("nought 1*;slips 0;costs 0;", 9);
+        fault("nought (1+);slips 0;costs 0;", 10);
+        fault("nought z;", 7);
+        fault("nought `;", 7);
+        fault("nought {;", 7);
+        fault("nought :;", 7);
+        fault("nought xff;", 7);
+        fault("nought /;", 7);
     }
 
     private static void openOnes() {
