@@ -12,7 +12,7 @@ public final class NoZeroWithin {
     private static final int FAULT_FROM = -100;
 
     private static final int BASE_LEAST = 2, BASE_MOST = 12;
-    private static final int YEAR_MOST = 999, NEXT_YEARS_MOST = 200;
+    private static final int YEAR_MOST = 999, NEXT_YEARS_MOST = 200, BEHIND_MOST = 3000;
     private static final int CLERKS_MOST = 5, KIND_MOST = 5, MORE_MOST = 9;
     private static final int NUMBER_MOST = 99999, SMALL_MOST = 999, PER_CENT = 100;
     private static final int TEXTS_MOST = 6, TAPE_MOST = 160, BYTE_MOST = 255, FEED_MOST = 5;
@@ -504,12 +504,8 @@ public final class NoZeroWithin {
     }
 
     public int behind(int from, int years) {
-        if (!isYear(from)) {
+        if (!isYear(from) || !isWithin(years, -BEHIND_MOST, BEHIND_MOST)) {
             return NO_YEAR;
-        }
-        // Further than all years reach: told ahead of the sum, which might wrap.
-        if (!isWithin(years, -2 * YEAR_MOST, 2 * YEAR_MOST)) {
-            return YEAR_OUTSIDE;
         }
         int there = yearAtPlace(placeOfYear(from) + years);
         return isYear(there) ? there : YEAR_OUTSIDE;
@@ -1150,7 +1146,7 @@ public final class NoZeroWithin {
         }
 
         Text result() {
-            return new Text(Arrays.copyOf(code, codeSize), slipsAt, costsAt);
+            return new Text(Arrays.copyOf(code, Math.max(0, Math.min(codeSize, code.length))), slipsAt, costsAt);
         }
 
         private boolean isPart(int key) {

@@ -696,10 +696,10 @@ public final class Model {
     }
 
     public long behind(int from, int years) {
-        if (!year(from)) {
+        if (!year(from) || years < -3000 || years > 3000) {
             return -100000;
         }
-        int y = years < -3000 || years > 3000 ? 0 : walk(from, years);
+        int y = walk(from, years);
         return year(y) ? y : -100001;
     }
 

@@ -247,7 +247,7 @@ public final class ModelTest {
             case "two" -> 0;
             case "base" -> random.nextInt(3) == 0 ? 10 : between(1, 13);
             case "year" -> random.nextInt(6) == 0 ? between(-1001, 1001) : random.nextInt(5) == 0 ? between(980, 999) : between(-40, 40);
-            case "years" -> random.nextInt(8) == 0 ? between(-3001, 3001) : between(-300, 300);
+            case "years" -> random.nextInt(4) == 0 ? between(-5000, 5000) : between(-300, 300);
             case "next" -> between(-1, 201);
             case "text" -> between(-1, 6);
             case "clerk" -> random.nextInt(15) == 0 ? between(-1, 5) : random.nextInt(Math.max(1, model.clerks.size()));

@@ -41,10 +41,17 @@ public final class YearTest {
         D.due("behind(999, 1)", x.behind(999, 1), -100001);
         D.due("behind(1, 3000)", x.behind(1, 3000), -100001);
         D.due("behind(1, -3000)", x.behind(1, -3000), -100001);
-        D.due("behind(1, greatest)", x.behind(1, Integer.MAX_VALUE), -100001);
-        D.due("behind(-1, least)", x.behind(-1, Integer.MIN_VALUE), -100001);
+        // The edges of so many: beyond them there is none such, wherever it would have led.
+        for (int y : new int[] {1, -1, 999, -999}) {
+            D.due("3000 behind " + y, x.behind(y, 3000), -100001);
+            D.due("-3000 behind " + y, x.behind(y, -3000), -100001);
+            for (int years : new int[] {3001, -3001, 4999, -4999, Integer.MAX_VALUE, Integer.MIN_VALUE}) {
+                D.due(years + " behind " + y, x.behind(y, years), -100000);
+            }
+        }
         for (int y : new int[] {0, -1000, 1000}) {
-            D.due("behind " + y, x.behind(y, 5000), -100000);
+            D.due("behind " + y, x.behind(y, 5), -100000);
+            D.due("too many behind " + y, x.behind(y, 5000), -100000);
         }
     }
 
