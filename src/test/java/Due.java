@@ -1,3 +1,5 @@
+import java.util.List;
+
 /** Counts the calls whose answer is not the one that is due. */
 final class Due {
     private int asked;
@@ -8,6 +10,30 @@ final class Due {
         if (got != want) {
             wrong++;
             System.out.println(call + " answered " + got + ", due is " + want);
+        }
+    }
+
+    /** Rows "call = answer" (or a call whose answer is told elsewhere), one behind the other, under a sentence of the document. */
+    void rows(NoZeroWithin x, String sentence, String... rows) {
+        for (String row : rows) {
+            int at = row.lastIndexOf(" = ");
+            long got = Calls.ask(x, at < 0 ? row : row.substring(0, at));
+            if (at >= 0) {
+                due(sentence + ": " + row.substring(0, at), got, Long.parseLong(row.substring(at + 3)));
+            }
+        }
+    }
+
+    /** The same on a new object. */
+    void edge(String sentence, String... rows) {
+        rows(new NoZeroWithin(), sentence, rows);
+    }
+
+    void same(String what, List<Long> got, List<Long> want) {
+        asked++;
+        if (!got.equals(want)) {
+            wrong++;
+            System.out.println(what + " left " + got + ", due is " + want);
         }
     }
 
