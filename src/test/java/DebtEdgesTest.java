@@ -142,6 +142,9 @@ public final class DebtEdgesTest {
         // 0 3 1 and 1 2 3 share what 3 owes 1.
         D.edge(three + ": from 0 ahead of from 1", "lend(0, 3, 1)", "lend(3, 1, 1)", "lend(1, 0, 1)", "lend(1, 2, 1)", "lend(2, 3, 1)", "clear() = 3",
             "debt(0, 3) = 0", "debt(1, 0) = 0", "debt(1, 2) = 1", "debt(2, 3) = 1");
+        // Both share what 5 owes 4.
+        D.edge(three + ": 0 5 4 ahead of 1 5 4", "lend(0, 5, 1)", "lend(5, 4, 1)", "lend(4, 0, 1)", "lend(4, 1, 1)", "lend(1, 5, 1)", "clear() = 3", "debt(0, 5) = 0",
+            "debt(4, 0) = 0", "debt(4, 1) = 1", "debt(1, 5) = 1");
         D.edge("the twos ahead of the threes", "lend(0, 1, 5)", "lend(1, 0, 3)", "lend(1, 2, 5)", "lend(2, 0, 5)", "clear() = 12", "debt(0, 1) = 0",
             "debt(1, 0) = 0", "debt(1, 2) = 3", "debt(2, 0) = 3");
     }
@@ -167,6 +170,8 @@ public final class DebtEdgesTest {
         forgive(fewest, "01 12 20 21", 12, 0);
         forgive(fewest, "01 10 12 21 20 02 54 45", 45, 3);
         forgive(fewest, "01 10 12 21", 1, 2);
+        forgive(fewest, "01 02 13 23 30", 30, 0);
+        forgive(fewest, "54 53 42 32 25", 25, 0);
         D.edge("BAD.", "forgive(-1) = -2", "forgive(2) = -2", "forgive(most) = -2", "forgive(least) = -2");
         D.edge("were it 0: it is as it was", "lend(0, 1, 7)", "lend(1, 0, 9)", "forgive(0) = 1", "debt(0, 1) = 7", "debt(1, 0) = 9", "rings() = 3");
     }

@@ -5,6 +5,7 @@ public final class TextEdgesTest {
     public static void main(String[] args) {
         bytesAlone();
         bytesBehindNumber();
+        bytesBehindWord();
         numbers();
         words();
         blanks();
@@ -48,6 +49,17 @@ public final class TextEdgesTest {
             boolean isText = sign >= '0' && sign <= '9' || sign == '+' || sign == '-' || sign == '*' || sign == '<' || sign == '=';
             boolean goesOn = sign == ' ' || sign == '\n' || sign == ';';
             e("SIGNS ( ) ; + - * < =: byte " + b, "1" + sign + "1", isText ? -1 : goesOn ? 2 : 1);
+        }
+    }
+
+    /** Each byte that there is between two names. */
+    private static void bytesBehindWord() {
+        for (int b = 0; b < 256; b++) {
+            char sign = (char) b;
+            boolean isText = sign == '+' || sign == '-' || sign == '*' || sign == '<' || sign == '=';
+            boolean goesOn = sign == ' ' || sign == '\n' || sign == ';';
+            boolean isLetter = sign >= 'a' && sign <= 'z';
+            e("WORDS (as many letters a .. z as stand there): byte " + b, "v" + sign + "v", isText ? -1 : goesOn ? 2 : isLetter ? 0 : 1);
         }
     }
 

@@ -82,7 +82,12 @@ public final class TownEdgesTest {
     private static void feed() {
         D.edge("The first n (1 .. 5) of five bytes", "feed(1, 1, 2, 3, 4, 5) = 1", "feed(5, 1, 2, 3, 4, 5) = 6", "feed(0, 1, 2, 3, 4, 5) = -2",
             "feed(6, 1, 2, 3, 4, 5) = -2", "feed(-1, 1, 2, 3, 4, 5) = -2", "feed(most, 1, 2, 3, 4, 5) = -2",
-            "feed(least, 1, 2, 3, 4, 5) = -2", "count(5) = 6");
+            "feed(least, 1, 2, 3, 4, 5) = -2", "count(5) = 6", "feed(2, 1, 2, 3, 4, 5) = 8", "feed(3, 1, 2, 3, 4, 5) = 11", "feed(4, 1, 2, 3, 4, 5) = 15",
+            "count(5) = 15");
+        // Only the first n come: what stands behind them would be a FAULT.
+        D.edge("The first n (1 .. 5) of five bytes come", "feed(1, 110, 35, 35, 35, 35)", "feed(2, 111, 117, 35, 35, 35)", "feed(3, 103, 104, 116, 35, 35)",
+            "feed(4, 32, 55, 59, 32, 35)", "feed(5, 115, 108, 105, 112, 115)", "feed(2, 49, 59, 35, 35, 35)", "feed(5, 99, 111, 115, 116, 115)",
+            "feed(2, 49, 59, 35, 35, 35) = 24", "text() = 1");
         D.edge("(0 .. 255 each)", "feed(5, 0, 0, 0, 0, 0) = 5", "feed(5, 255, 255, 255, 255, 255) = 10");
         for (int at = 0; at < 5; at++) {
             for (int wrong : new int[] {-1, 256, Integer.MIN_VALUE, Integer.MAX_VALUE}) {

@@ -77,6 +77,8 @@ public final class WritingEdgesTest {
             "adds(0, 0, 1) = 51", "adds(1, 0, 1) = 51", "adds(2, 0, 1) = 51", "adds(0, 10, 99999) = 100009", "adds(1, 10, 99999) = 100009",
             "adds(2, 10, 99999) = 100009");
         D.edge(nought + ": a nought that is 0", "clerk(0, 9)", "say nought 0;slips 0;costs 0; = 1", "force(1)", "adds(0, 0, 0) = 0", "figure(0, 0, 0) = 0");
+        D.edge("v: the number that is meant: of a nought it is 0; off: else 0", "clerk(0, 9)", "say nought v*1000+off*100+5;slips 0;costs 0; = 1", "force(1)",
+            "adds(0, 0, 7) = 12", "plain(0, 0) = 5", "figure(0, 0, 1) = 5");
         D.edge("2 KINDLY: MAKES 1 more of such as 10 divides (0, too).", "clerk(2, 9)", "adds(0, 1, 1) = 2", "adds(0, 9, 1) = 10", "adds(0, 10, 1) = 12",
             "adds(0, 11, 1) = 12", "adds(0, 20, 1) = 22", "adds(0, 100, 1) = 102", "adds(0, 99990, 1) = 99992", "adds(0, 99999, 1) = 100000",
             "adds(0, 0, 1) = 3", "say nought 0;slips 0;costs 0; = 1", "force(1)", "adds(0, 0, 1) = 2", "say nought 10;slips 0;costs 0; = 2",
